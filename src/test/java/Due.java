@@ -11,8 +11,18 @@ final class Due {
 
     private static int wrong = 0;
     private static int asked = 0;
+    private static String place = "";
 
     private Due() {
+    }
+
+    /** The case that the next answers belong to, told with each wrong one. */
+    static void begin(String name) {
+        place = name + ": ";
+    }
+
+    static int asked() {
+        return asked;
     }
 
     static void is(String call, long got, long want) {
@@ -21,7 +31,7 @@ final class Due {
             wrong++;
             // A broken class would answer wrongly so often that nobody reads it all.
             if (wrong <= 100) {
-                System.out.println(call + " answered " + got + ", due is " + want);
+                System.out.println(place + call + " answered " + got + ", due is " + want);
             }
         }
     }
